@@ -231,6 +231,14 @@ public final class PromisesTest {
         due(y.about(0, 1), 0);
         due(y.lines(3, 1, 2, 6), 6);
         due(y.lines(3, 1, 0, 0), 6);
+        // Only the one on the left, only the one on the right becomes full.
+        AlikePosts z = posts(new int[8]);
+        fill(z, 0, 0, 0, 1, 0, 2, 0, 3, 0, 4, 0, 5, 0, 6, 0, 7);
+        fill(z, 1, 0, 1, 0, 2, 0, 3, 0, 4, 0, 5, 0, 6, 0, 7, 0);
+        due(z.lines(0, 0, 0, 7), -4);
+        due(z.lines(1, 0, 0, 7), -4);
+        due(z.told(1), 0);
+        due(z.lines(0, 0, 0, 6), 6);
     }
 
     private static void linesFaults() {
@@ -589,6 +597,16 @@ public final class PromisesTest {
         due(y.flooded(0, 1), 0);
         due(y.flooded(1, 1), 1);
         due(y.flooded(2, 0), -1);
+        // Nothing of an earlier flooding is left.
+        y.flood(1, 4);
+        due(y.flooded(0, 2), 2);
+        due(y.flooded(1, 2), 1);
+        due(y.flooded(1, 0), -9);
+        due(y.flooded(1, 1), 0);
+        x.flood(4, 99);
+        due(x.flooded(0, 0), -9);
+        due(x.flooded(0, 1), -9);
+        due(x.flooded(0, 2), 0);
     }
 
     private static AlikePosts justFlooded() {
