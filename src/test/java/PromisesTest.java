@@ -1,23 +1,5 @@
 // What each promise says, one method for each: ordinary inputs, the edges it names, wrong inputs.
-public final class PromisesTest {
-    private static final long LOST = Long.MIN_VALUE;
-    private static int promise;
-    private static int row;
-    private static int wrong;
-
-    private static void start(int number) {
-        promise = number;
-        row = 0;
-    }
-
-    private static void due(long got, long want) {
-        row++;
-        if (got != want) {
-            wrong++;
-            System.out.println("promise " + promise + ", row " + row + ": answered " + got + ", due is " + want);
-        }
-    }
-
+public final class PromisesTest extends Checks {
     public static void main(String[] args) {
         constants();
         newObject();
@@ -57,44 +39,11 @@ public final class PromisesTest {
         trace();
         fault();
         told();
-        System.out.println(wrong == 0 ? "every promise is kept" : wrong + " answers are not as due");
-        if (wrong != 0) {
-            System.exit(1);
-        }
-    }
-
-    private static AlikePosts posts(int... marks) {
-        AlikePosts x = new AlikePosts();
-        for (int mark : marks) {
-            x.post(mark);
-        }
-        return x;
-    }
-
-    // 0 - 1 - 2 - .. in a row
-    private static AlikePosts path(int n) {
-        AlikePosts x = posts(new int[n]);
-        for (int p = 0; p + 1 < n; p++) {
-            x.line(p, p + 1);
-        }
-        return x;
-    }
-
-    // A ring in which port 0 leads on and port 1 leads back, at each post.
-    private static AlikePosts evenRing(int n) {
-        AlikePosts x = posts(new int[n]);
-        for (int p = 0; p < n; p++) {
-            x.line(p, (p + 1) % n);
-        }
-        x.swap(0, 0, 0);
-        for (int p = 1; p < n; p++) {
-            x.swap(p, 0, 1);
-        }
-        return x;
+        finish("every promise is kept");
     }
 
     private static void constants() {
-        start(0);
+        under("The public face");
         due(AlikePosts.UNKNOWN, -1);
         due(AlikePosts.OUTSIDE, -2);
         due(AlikePosts.STATE, -3);
@@ -104,7 +53,7 @@ public final class PromisesTest {
     }
 
     private static void newObject() {
-        start(1);
+        under("Promise 1");
         AlikePosts x = new AlikePosts();
         for (int what = 0; what < 5; what++) {
             due(x.told(what), 0);
@@ -121,7 +70,7 @@ public final class PromisesTest {
     }
 
     private static void clear() {
-        start(2);
+        under("Promise 2");
         AlikePosts x = path(3);
         due(x.clear(), 3);
         due(x.clear(), 0);
@@ -146,7 +95,7 @@ public final class PromisesTest {
     }
 
     private static void post() {
-        start(3);
+        under("Promise 3");
         AlikePosts x = new AlikePosts();
         due(x.post(-1), -2);
         due(x.post(10), -2);
@@ -162,7 +111,7 @@ public final class PromisesTest {
     }
 
     private static void mark() {
-        start(4);
+        under("Promise 4");
         AlikePosts x = posts(3, 3);
         due(x.mark(0, 9), 3);
         due(x.mark(0, 0), 9);
@@ -177,7 +126,7 @@ public final class PromisesTest {
     }
 
     private static void line() {
-        start(5);
+        under("Promise 5");
         AlikePosts x = posts(0, 0, 0);
         due(x.line(0, 3), -1);
         due(x.line(-1, 0), -1);
@@ -201,15 +150,8 @@ public final class PromisesTest {
         due(y.end(2, 0, 1), 1);
     }
 
-    private static void fill(AlikePosts x, int k, int lane, int... cells) {
-        x.sheet(k, lane, cells.length);
-        for (int i = 0; i < cells.length; i++) {
-            x.put(k, i, cells[i]);
-        }
-    }
-
     private static void lines() {
-        start(6);
+        under("Promise 6");
         AlikePosts x = posts(0, 0, 0);
         fill(x, 0, 2, 0, 1, 2, 1, 2, 2, 0, 7, 7, -1);
         due(x.lines(0, 2, 0, 2), 2);
@@ -242,7 +184,7 @@ public final class PromisesTest {
     }
 
     private static void linesFaults() {
-        start(6);
+        under("Promise 6");
         AlikePosts x = posts(0, 0);
         due(x.lines(4, 9, 0, 0), -1);
         due(x.lines(-1, 0, 0, 0), -1);
@@ -270,7 +212,7 @@ public final class PromisesTest {
     }
 
     private static void swap() {
-        start(7);
+        under("Promise 7");
         AlikePosts x = path(3);
         due(x.swap(1, 0, 1), 1);
         due(x.end(1, 0, 0), 2);
@@ -295,7 +237,7 @@ public final class PromisesTest {
     }
 
     private static void end() {
-        start(8);
+        under("Promise 8");
         AlikePosts x = path(3);
         due(x.end(2, 0, 0), 1);
         due(x.end(2, 0, 1), 1);
@@ -309,7 +251,7 @@ public final class PromisesTest {
     }
 
     private static void doubled() {
-        start(9);
+        under("Promise 9");
         AlikePosts x = path(3);
         x.mark(2, 7);
         due(x.doubled(0, 1), -1);
@@ -335,7 +277,7 @@ public final class PromisesTest {
     }
 
     private static void doubledKeepsPorts() {
-        start(9);
+        under("Promise 9");
         AlikePosts x = path(4);
         x.swap(1, 0, 1);
         due(x.doubled(2, 0), 8);
@@ -357,7 +299,7 @@ public final class PromisesTest {
     }
 
     private static void about() {
-        start(10);
+        under("Promise 10");
         AlikePosts x = path(4);
         x.post(8);
         int[] far = {0, 1, 2, 3, -9};
@@ -380,7 +322,7 @@ public final class PromisesTest {
     }
 
     private static void together() {
-        start(11);
+        under("Promise 11");
         AlikePosts x = new AlikePosts();
         due(x.together(), 0);
         x.post(0);
@@ -395,7 +337,7 @@ public final class PromisesTest {
     }
 
     private static void rank() {
-        start(12);
+        under("Promise 12");
         AlikePosts x = posts(2, 1, 1, 2, 0);
         x.line(0, 1);
         // By mark, then by how many ports: post 4 (0, 0), 2 (1, 0), 1 (1, 1), 3 (2, 0), 0 (2, 1).
@@ -418,7 +360,7 @@ public final class PromisesTest {
     }
 
     private static void rankByPorts() {
-        start(12);
+        under("Promise 12");
         // The number of the far port comes ahead of the far post's rank.
         AlikePosts x = path(4);
         due(x.rank(0, 0), 0);
@@ -454,7 +396,7 @@ public final class PromisesTest {
     }
 
     private static void rest() {
-        start(13);
+        under("Promise 13");
         due(new AlikePosts().rest(), -3);
         due(posts(0).rest(), 0);
         due(posts(0, 0, 1, 1).rest(), 0);
@@ -472,7 +414,7 @@ public final class PromisesTest {
     }
 
     private static void ranks() {
-        start(14);
+        under("Promise 14");
         AlikePosts x = new AlikePosts();
         due(x.ranks(0), 0);
         due(x.ranks(20), 0);
@@ -486,7 +428,7 @@ public final class PromisesTest {
     }
 
     private static void apart() {
-        start(15);
+        under("Promise 15");
         AlikePosts x = path(4);
         due(x.apart(0, 1), 0);
         due(x.apart(0, 3), 1);
@@ -505,7 +447,7 @@ public final class PromisesTest {
     }
 
     private static void chosen() {
-        start(16);
+        under("Promise 16");
         due(new AlikePosts().chosen(), -9);
         due(posts(5).chosen(), 0);
         due(posts(5, 4).chosen(), -9);
@@ -524,7 +466,7 @@ public final class PromisesTest {
     }
 
     private static void flood() {
-        start(17);
+        under("Promise 17");
         AlikePosts x = path(5);
         due(x.flood(5, 1), -1);
         due(x.flood(-1, 1), -1);
@@ -549,7 +491,7 @@ public final class PromisesTest {
     }
 
     private static void floodDraws() {
-        start(17);
+        under("Promise 17");
         // A star: the words by ports 0 .. 5 come in the order of the draws.
         for (long seed = -40; seed < 40; seed++) {
             AlikePosts x = posts(new int[7]);
@@ -568,7 +510,7 @@ public final class PromisesTest {
     }
 
     private static void flooded() {
-        start(18);
+        under("Promise 18");
         AlikePosts x = path(4);
         x.post(0);
         due(x.flooded(0, 0), -3);
@@ -618,7 +560,7 @@ public final class PromisesTest {
     }
 
     private static void floodedIsGone() {
-        start(18);
+        under("Promise 18");
         AlikePosts x = justFlooded();
         x.post(10);
         x.line(0, 0);
@@ -663,7 +605,7 @@ public final class PromisesTest {
     }
 
     private static void word() {
-        start(19);
+        under("Promise 19");
         AlikePosts x = path(4);
         due(x.word(0), -3);
         due(x.word(-1), -3);
@@ -682,7 +624,7 @@ public final class PromisesTest {
     }
 
     private static void lots() {
-        start(20);
+        under("Promise 20");
         AlikePosts x = new AlikePosts();
         due(x.lots(2, 0), LOST);
         due(x.lots(0, 0), LOST);
@@ -712,7 +654,7 @@ public final class PromisesTest {
     }
 
     private static void sheet() {
-        start(21);
+        under("Promise 21");
         AlikePosts x = new AlikePosts();
         due(x.sheet(4, 9, -1), -1);
         due(x.sheet(-1, 0, 1), -1);
@@ -737,7 +679,7 @@ public final class PromisesTest {
     }
 
     private static void lose() {
-        start(22);
+        under("Promise 22");
         AlikePosts x = new AlikePosts();
         due(x.lose(0), 0);
         x.sheet(0, 1, 0);
@@ -751,7 +693,7 @@ public final class PromisesTest {
     }
 
     private static void put() {
-        start(23);
+        under("Promise 23");
         AlikePosts x = new AlikePosts();
         due(x.put(4, 0, 0), -1);
         due(x.put(-1, 0, 0), -1);
@@ -773,7 +715,7 @@ public final class PromisesTest {
     }
 
     private static void cell() {
-        start(24);
+        under("Promise 24");
         AlikePosts x = new AlikePosts();
         due(x.cell(0, 0, 0), LOST);
         due(x.fault(), 1);
@@ -802,14 +744,8 @@ public final class PromisesTest {
         due(x.fault(), 1);
     }
 
-    private static void cells(AlikePosts x, int k, int lane, int... want) {
-        for (int i = 0; i < want.length; i++) {
-            due(x.cell(k, i, lane), want[i]);
-        }
-    }
-
     private static void copy() {
-        start(25);
+        under("Promise 25");
         AlikePosts x = new AlikePosts();
         fill(x, 0, 0, 1, 2, 3, 4, 5);
         fill(x, 1, 0, 9, 9, 9);
@@ -829,7 +765,7 @@ public final class PromisesTest {
     }
 
     private static void copyFaults() {
-        start(25);
+        under("Promise 25");
         AlikePosts x = new AlikePosts();
         due(x.copy(4, 0, 0, 0, 0), -1);
         due(x.copy(0, 0, 4, 0, 0), -1);
@@ -856,7 +792,7 @@ public final class PromisesTest {
     }
 
     private static void tell() {
-        start(26);
+        under("Promise 26");
         AlikePosts x = posts(4, 5, 6, 0);
         x.line(0, 1);
         x.line(1, 2);
@@ -874,7 +810,7 @@ public final class PromisesTest {
     }
 
     private static void hear() {
-        start(27);
+        under("Promise 27");
         AlikePosts x = path(3);
         x.post(0);
         due(x.hear(1), 1);
@@ -890,7 +826,7 @@ public final class PromisesTest {
     }
 
     private static void as() {
-        start(28);
+        under("Promise 28");
         AlikePosts x = path(3);
         x.post(0);
         int[][] want = {{1, 1, 1}, {1, 1, -12}, {1, 1, 1}, {1, -12, -12}};
@@ -911,7 +847,7 @@ public final class PromisesTest {
     }
 
     private static void trace() {
-        start(29);
+        under("Promise 29");
         AlikePosts x = posts(0);
         int want = 0;
         for (int i = 0; i < 40; i++) {
@@ -924,7 +860,7 @@ public final class PromisesTest {
     }
 
     private static void fault() {
-        start(30);
+        under("Promise 30");
         AlikePosts x = posts(0, 0);
         due(x.fault(), 0);
         x.put(0, 0, 0);
@@ -960,7 +896,7 @@ public final class PromisesTest {
     }
 
     private static void told() {
-        start(31);
+        under("Promise 31");
         AlikePosts x = path(5);
         x.post(0);
         x.post(0);
