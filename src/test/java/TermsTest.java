@@ -17,8 +17,10 @@ public final class TermsTest extends Checks {
         portsFromZeroOn();
         farPortGoesAheadOfFarRank();
         greatestFarPortAndRank();
+        farPortAheadOfGreatestRank();
         rankOneDepthBefore();
         atRest();
+        atRestSooner();
         alike();
         chosen();
         doubledHalves();
@@ -262,6 +264,23 @@ public final class TermsTest extends Checks {
         due(y.rank(1, 1), 1);
     }
 
+    private static void farPortAheadOfGreatestRank() {
+        under("Terms", "by the number of the PORT at the other end of its LINE, then by the RANK at DEPTH k of the POST there");
+        // Post 0 meets port 1 of the post of rank 1 or 2, post 1 meets port 0 of the post of rank 10.
+        for (int mark = 1; mark <= 2; mark++) {
+            AlikePosts x = posts(0, 0, mark, 9, 2, 3, 4, 5, 6, 7, 8, 9);
+            x.mark(4, 3 - mark);
+            x.line(2, 4);
+            x.line(2, 0);
+            x.line(1, 3);
+            due(x.rank(2, 0), mark);
+            due(x.rank(3, 0), 10);
+            due(x.rank(0, 0), x.rank(1, 0));
+            due(x.rank(1, 1), 0);
+            due(x.rank(0, 1), 1);
+        }
+    }
+
     private static void rankOneDepthBefore() {
         under("Terms", "the RANK at DEPTH k of the POST there");
         // A mark at one place of a ring is seen one step farther at each depth, and not ahead of it.
@@ -294,6 +313,38 @@ public final class TermsTest extends Checks {
                 due(x.rank(p, depth), x.about(p, 2));
             }
         }
+    }
+
+    private static void atRestSooner() {
+        under("Terms", "At some DEPTH all RANKS are as at the next one: there they are AT REST; that DEPTH is the first such");
+        // The mark goes that told them apart to depth 5: nothing is left of the deeper ranks.
+        AlikePosts x = evenRing(12);
+        x.mark(0, 1);
+        due(x.rest(), 5);
+        x.mark(0, 0);
+        due(x.rest(), 0);
+        due(x.told(2), 1);
+        due(x.ranks(20), 1);
+        due(x.apart(0, 6), -9);
+        for (int p = 0; p < 12; p++) {
+            due(x.about(p, 2), 0);
+            due(x.about(p, 3), 12);
+        }
+        x.mark(0, 1);
+        due(x.rest(), 5);
+        // A net behind clear() that rests at once, and one that rests at depth 1.
+        x.clear();
+        x.post(1);
+        x.post(0);
+        due(x.rest(), 0);
+        due(x.about(0, 2), 1);
+        due(x.about(1, 2), 0);
+        due(x.ranks(20), 2);
+        x.post(0);
+        x.line(0, 1);
+        x.line(0, 2);
+        due(x.rest(), 1);
+        due(x.chosen(), 1);
     }
 
     private static void alike() {
